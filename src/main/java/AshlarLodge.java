@@ -60,7 +60,6 @@ public final class AshlarLodge {
     private final Memory memory = new Memory();
     private final Shelf shelf = new Shelf();
     private final Forecast forecast = new Forecast();
-    private final Reader reader = new Reader(text, trial);
 
     public AshlarLodge() {
     }
@@ -82,11 +81,11 @@ public final class AshlarLodge {
     }
 
     public int errorPosition() {
-        return reader.read();
+        return new Reader(text, trial).read();
     }
 
     public int load() throws IllegalStateException {
-        if (reader.read() != NONE) {
+        if (new Reader(text, trial).read() != NONE) {
             throw new IllegalStateException("the text is not a lodge");
         }
         copyLodge(trial, now);

@@ -77,9 +77,8 @@ public final class FaceTest {
     private static void checkFields() {
         for (Field field : AshlarLodge.class.getDeclaredFields()) {
             String modifiers = Modifier.toString(field.getModifiers());
-            Check.same(field + " is NONE or private",
-                    field.getName().equals("NONE") ? modifiers.equals("public static final") : modifiers.startsWith("private"),
-                    true);
+            String due = field.getName().equals("NONE") ? "public static final" : "private";
+            Check.same(field + " is NONE or private", modifiers.startsWith(due), true);
             Check.same(field + " is final", Modifier.isFinal(field.getModifiers()), true);
         }
     }
