@@ -23,15 +23,15 @@ public final class ActionTest {
         int[][] wrong = {{0, 1, 1}, {10, 1, 1}, {1, 0, 1}, {1, 7, 1}, {1, 1, 0}, {1, 1, 10}, {-1, 1, 1}};
         for (int i = 0; i < 6; i++) {
             for (int[] w : wrong) {
-                Check.failsOn(x, "addCourse", Check.ARGUMENT, () -> x.addCourse(w[0], w[1], w[2]));
+                Check.fails("addCourse", Check.ARGUMENT, () -> x.addCourse(w[0], w[1], w[2]));
             }
             Check.same("addCourse", x.addCourse(9 - i, 6 - i, i + 4), i);
             Check.same("its size", x.course(i, 0), 9 - i);
             Check.same("its faces", x.course(i, 1), 6 - i);
             Check.same("its stones", x.course(i, 2), i + 4);
         }
-        Check.failsOn(x, "a seventh course", Check.STATE, () -> x.addCourse(1, 1, 1));
-        Check.failsOn(x, "a wrong seventh course", Check.ARGUMENT, () -> x.addCourse(1, 1, 10));
+        Check.fails("a seventh course", Check.STATE, () -> x.addCourse(1, 1, 1));
+        Check.fails("a wrong seventh course", Check.ARGUMENT, () -> x.addCourse(1, 1, 10));
         Check.same("states remembered", x.undo(), 5);
     }
 
@@ -40,7 +40,7 @@ public final class ActionTest {
         int[][] wrong = {{0, 1}, {10, 1}, {1, 0}, {1, 13}};
         for (int i = 0; i < 6; i++) {
             for (int[] w : wrong) {
-                Check.failsOn(x, "addMason", Check.ARGUMENT, () -> x.addMason(w[0], w[1]));
+                Check.fails("addMason", Check.ARGUMENT, () -> x.addMason(w[0], w[1]));
             }
             Check.same("addMason", x.addMason(9 - i, 12 - i), i);
             Check.same("rate", x.mason(i, 0), 9 - i);
@@ -48,18 +48,18 @@ public final class ActionTest {
             Check.same("no work on this day", x.mason(i, 2), 0);
             Check.same("nothing owed", x.mason(i, 3), 0);
         }
-        Check.failsOn(x, "a seventh mason", Check.STATE, () -> x.addMason(1, 1));
-        Check.failsOn(x, "a wrong seventh mason", Check.ARGUMENT, () -> x.addMason(1, 13));
+        Check.fails("a seventh mason", Check.STATE, () -> x.addMason(1, 1));
+        Check.fails("a wrong seventh mason", Check.ARGUMENT, () -> x.addMason(1, 13));
         Check.same("states remembered", x.undo(), 5);
     }
 
     private static void changesRates() {
         AshlarLodge x = Check.lodge("L3c122m412m512s000");
-        Check.failsOn(x, "setRate(-1, 1)", Check.INDEX, () -> x.setRate(-1, 1));
-        Check.failsOn(x, "setRate(2, 1)", Check.INDEX, () -> x.setRate(2, 1));
-        Check.failsOn(x, "setRate(2, 10)", Check.INDEX, () -> x.setRate(2, 10));
-        Check.failsOn(x, "setRate(1, 10)", Check.ARGUMENT, () -> x.setRate(1, 10));
-        Check.failsOn(x, "setRate(1, 0)", Check.ARGUMENT, () -> x.setRate(1, 0));
+        Check.fails("setRate(-1, 1)", Check.INDEX, () -> x.setRate(-1, 1));
+        Check.fails("setRate(2, 1)", Check.INDEX, () -> x.setRate(2, 1));
+        Check.fails("setRate(2, 10)", Check.INDEX, () -> x.setRate(2, 10));
+        Check.fails("setRate(1, 10)", Check.ARGUMENT, () -> x.setRate(1, 10));
+        Check.fails("setRate(1, 0)", Check.ARGUMENT, () -> x.setRate(1, 0));
         Check.fails("nothing is remembered", Check.STATE, x::undo);
         Check.same("setRate(1, 9)", x.setRate(1, 9), 5);
         Check.same("setRate(1, 1)", x.setRate(1, 1), 9);
@@ -72,8 +72,8 @@ public final class ActionTest {
 
     private static void changesBound() {
         AshlarLodge x = Check.lodge("L3c111m101s005s004s005s000");
-        Check.failsOn(x, "setBound(-1)", Check.ARGUMENT, () -> x.setBound(-1));
-        Check.failsOn(x, "setBound(10)", Check.ARGUMENT, () -> x.setBound(10));
+        Check.fails("setBound(-1)", Check.ARGUMENT, () -> x.setBound(-1));
+        Check.fails("setBound(10)", Check.ARGUMENT, () -> x.setBound(10));
         Check.same("setBound(4)", x.setBound(4), 3);
         Check.same("the bound", x.about(5), 4);
         Check.same("a fault above it", x.inspect(0), AshlarLodge.NONE);
@@ -100,30 +100,30 @@ public final class ActionTest {
 
     private static void refusesToCut() {
         AshlarLodge x = Check.lodge("L3c132c122m512m202");
-        Check.failsOn(x, "cut(2, 0, 0)", Check.INDEX, () -> x.cut(2, 0, 0));
-        Check.failsOn(x, "cut(-1, 0, 0)", Check.INDEX, () -> x.cut(-1, 0, 0));
-        Check.failsOn(x, "cut(0, 2, 0)", Check.INDEX, () -> x.cut(0, 2, 0));
-        Check.failsOn(x, "cut(0, -1, 0)", Check.INDEX, () -> x.cut(0, -1, 0));
-        Check.failsOn(x, "cut(0, 2, 10)", Check.INDEX, () -> x.cut(0, 2, 10));
-        Check.failsOn(x, "cut(2, 0, 10)", Check.INDEX, () -> x.cut(2, 0, 10));
-        Check.failsOn(x, "cut(0, 0, 10)", Check.ARGUMENT, () -> x.cut(0, 0, 10));
-        Check.failsOn(x, "cut(0, 0, -1)", Check.ARGUMENT, () -> x.cut(0, 0, -1));
-        Check.failsOn(x, "cut(1, 0, 10)", Check.ARGUMENT, () -> x.cut(1, 0, 10));
-        Check.failsOn(x, "too little work", Check.STATE, () -> x.cut(1, 0, 0));
+        Check.fails("cut(2, 0, 0)", Check.INDEX, () -> x.cut(2, 0, 0));
+        Check.fails("cut(-1, 0, 0)", Check.INDEX, () -> x.cut(-1, 0, 0));
+        Check.fails("cut(0, 2, 0)", Check.INDEX, () -> x.cut(0, 2, 0));
+        Check.fails("cut(0, -1, 0)", Check.INDEX, () -> x.cut(0, -1, 0));
+        Check.fails("cut(0, 2, 10)", Check.INDEX, () -> x.cut(0, 2, 10));
+        Check.fails("cut(2, 0, 10)", Check.INDEX, () -> x.cut(2, 0, 10));
+        Check.fails("cut(0, 0, 10)", Check.ARGUMENT, () -> x.cut(0, 0, 10));
+        Check.fails("cut(0, 0, -1)", Check.ARGUMENT, () -> x.cut(0, 0, -1));
+        Check.fails("cut(1, 0, 10)", Check.ARGUMENT, () -> x.cut(1, 0, 10));
+        Check.fails("too little work", Check.STATE, () -> x.cut(1, 0, 0));
         Check.fails("nothing is remembered", Check.STATE, x::undo);
         AshlarLodge full = Check.lodge("L3c111m112m112m112");
         for (int s = 0; s < 24; s++) {
             Check.same("cut", full.cut(s / 12, 0, s % 10), s);
         }
-        Check.failsOn(full, "a stone too many", Check.STATE, () -> full.cut(2, 0, 0));
+        Check.fails("a stone too many", Check.STATE, () -> full.cut(2, 0, 0));
         Check.same("the last stone", full.stone(23, 2), 3);
-        Check.failsOn(full, "a wrong stone too many", Check.ARGUMENT, () -> full.cut(2, 0, 10));
+        Check.fails("a wrong stone too many", Check.ARGUMENT, () -> full.cut(2, 0, 10));
     }
 
     private static void inspects() {
         AshlarLodge x = Check.lodge("L3c639m512m204s003s104s102");
-        Check.failsOn(x, "inspect(-1)", Check.INDEX, () -> x.inspect(-1));
-        Check.failsOn(x, "inspect(3)", Check.INDEX, () -> x.inspect(3));
+        Check.fails("inspect(-1)", Check.INDEX, () -> x.inspect(-1));
+        Check.fails("inspect(3)", Check.INDEX, () -> x.inspect(3));
         Check.same("at the bound", x.inspect(0), 15);
         Check.same("above it", x.inspect(1), AshlarLodge.NONE);
         Check.same("below it", x.inspect(2), 6);
@@ -131,12 +131,12 @@ public final class ActionTest {
         Check.same("rejected", x.stone(1, 3), 2);
         Check.same("owed to 0", x.mason(0, 3), 15);
         Check.same("owed to 1", x.mason(1, 3), 6);
-        Check.failsOn(x, "inspect an accepted one", Check.STATE, () -> x.inspect(0));
-        Check.failsOn(x, "inspect a rejected one", Check.STATE, () -> x.inspect(1));
+        Check.fails("inspect an accepted one", Check.STATE, () -> x.inspect(0));
+        Check.fails("inspect a rejected one", Check.STATE, () -> x.inspect(1));
         x.scrap(1);
-        Check.failsOn(x, "inspect a scrapped one", Check.STATE, () -> x.inspect(1));
+        Check.fails("inspect a scrapped one", Check.STATE, () -> x.inspect(1));
         x.set(0);
-        Check.failsOn(x, "inspect a set one", Check.STATE, () -> x.inspect(0));
+        Check.fails("inspect a set one", Check.STATE, () -> x.inspect(0));
         Check.same("frost does not stop inspections", afterFrost(x), 15);
     }
 
@@ -176,25 +176,25 @@ public final class ActionTest {
 
     private static void refusesToRecut() {
         AshlarLodge x = rejected();
-        Check.failsOn(x, "recut(-1, 0, 1)", Check.INDEX, () -> x.recut(-1, 0, 1));
-        Check.failsOn(x, "recut(2, 0, 1)", Check.INDEX, () -> x.recut(2, 0, 1));
-        Check.failsOn(x, "recut(0, -1, 1)", Check.INDEX, () -> x.recut(0, -1, 1));
-        Check.failsOn(x, "recut(0, 4, 1)", Check.INDEX, () -> x.recut(0, 4, 1));
-        Check.failsOn(x, "recut(0, 0, -1)", Check.INDEX, () -> x.recut(0, 0, -1));
-        Check.failsOn(x, "recut(0, 0, 4)", Check.INDEX, () -> x.recut(0, 0, 4));
-        Check.failsOn(x, "recut(0, 3, 4)", Check.INDEX, () -> x.recut(0, 3, 4));
-        Check.failsOn(x, "an accepted stone", Check.STATE, () -> x.recut(0, 3, 2));
-        Check.failsOn(x, "the own course", Check.STATE, () -> x.recut(0, 0, 0));
-        Check.failsOn(x, "a course as large", Check.STATE, () -> x.recut(0, 2, 3));
-        Check.failsOn(x, "a larger course", Check.STATE, () -> x.recut(0, 2, 0));
+        Check.fails("recut(-1, 0, 1)", Check.INDEX, () -> x.recut(-1, 0, 1));
+        Check.fails("recut(2, 0, 1)", Check.INDEX, () -> x.recut(2, 0, 1));
+        Check.fails("recut(0, -1, 1)", Check.INDEX, () -> x.recut(0, -1, 1));
+        Check.fails("recut(0, 4, 1)", Check.INDEX, () -> x.recut(0, 4, 1));
+        Check.fails("recut(0, 0, -1)", Check.INDEX, () -> x.recut(0, 0, -1));
+        Check.fails("recut(0, 0, 4)", Check.INDEX, () -> x.recut(0, 0, 4));
+        Check.fails("recut(0, 3, 4)", Check.INDEX, () -> x.recut(0, 3, 4));
+        Check.fails("an accepted stone", Check.STATE, () -> x.recut(0, 3, 2));
+        Check.fails("the own course", Check.STATE, () -> x.recut(0, 0, 0));
+        Check.fails("a course as large", Check.STATE, () -> x.recut(0, 2, 3));
+        Check.fails("a larger course", Check.STATE, () -> x.recut(0, 2, 0));
         x.recut(1, 0, 3);
-        Check.failsOn(x, "no work is left", Check.STATE, () -> x.recut(1, 1, 2));
-        Check.failsOn(x, "a stone that is cut", Check.STATE, () -> x.recut(0, 0, 2));
+        Check.fails("no work is left", Check.STATE, () -> x.recut(1, 1, 2));
+        Check.fails("a stone that is cut", Check.STATE, () -> x.recut(0, 0, 2));
         x.nextDay(true);
-        Check.failsOn(x, "frost", Check.STATE, () -> x.recut(0, 1, 2));
+        Check.fails("frost", Check.STATE, () -> x.recut(0, 1, 2));
         x.nextDay(false);
         x.scrap(1);
-        Check.failsOn(x, "a scrapped stone", Check.STATE, () -> x.recut(0, 1, 2));
+        Check.fails("a scrapped stone", Check.STATE, () -> x.recut(0, 1, 2));
     }
 
     private static void paysHalfForRecut() {
@@ -220,40 +220,40 @@ public final class ActionTest {
 
     private static void scraps() {
         AshlarLodge x = Check.lodge("L3c111m101s009s008s000s009");
-        Check.failsOn(x, "scrap(-1)", Check.INDEX, () -> x.scrap(-1));
-        Check.failsOn(x, "scrap(4)", Check.INDEX, () -> x.scrap(4));
-        Check.failsOn(x, "a stone that is cut", Check.STATE, () -> x.scrap(0));
+        Check.fails("scrap(-1)", Check.INDEX, () -> x.scrap(-1));
+        Check.fails("scrap(4)", Check.INDEX, () -> x.scrap(4));
+        Check.fails("a stone that is cut", Check.STATE, () -> x.scrap(0));
         for (int s = 0; s < 4; s++) {
             x.inspect(s);
         }
-        Check.failsOn(x, "an accepted stone", Check.STATE, () -> x.scrap(2));
+        Check.fails("an accepted stone", Check.STATE, () -> x.scrap(2));
         Check.same("scrap(3)", x.scrap(3), 1);
         Check.same("scrap(0)", x.scrap(0), 2);
         Check.same("its state", x.stone(0, 3), 4);
-        Check.failsOn(x, "a scrapped stone", Check.STATE, () -> x.scrap(0));
+        Check.fails("a scrapped stone", Check.STATE, () -> x.scrap(0));
         x.set(2);
-        Check.failsOn(x, "a stone that is set", Check.STATE, () -> x.scrap(2));
+        Check.fails("a stone that is set", Check.STATE, () -> x.scrap(2));
         Check.same("scrap(1)", x.scrap(1), 3);
     }
 
     private static void sets() {
         AshlarLodge x = Check.lodge("L3c112c111m101s000s000s000s010s009");
-        Check.failsOn(x, "set(-1)", Check.INDEX, () -> x.set(-1));
-        Check.failsOn(x, "set(5)", Check.INDEX, () -> x.set(5));
-        Check.failsOn(x, "a stone that is cut", Check.STATE, () -> x.set(0));
+        Check.fails("set(-1)", Check.INDEX, () -> x.set(-1));
+        Check.fails("set(5)", Check.INDEX, () -> x.set(5));
+        Check.fails("a stone that is cut", Check.STATE, () -> x.set(0));
         for (int s = 0; s < 5; s++) {
             x.inspect(s);
         }
-        Check.failsOn(x, "above an open course", Check.STATE, () -> x.set(3));
-        Check.failsOn(x, "a rejected stone", Check.STATE, () -> x.set(4));
+        Check.fails("above an open course", Check.STATE, () -> x.set(3));
+        Check.fails("a rejected stone", Check.STATE, () -> x.set(4));
         Check.same("set(2)", x.set(2), 1);
-        Check.failsOn(x, "above a half course", Check.STATE, () -> x.set(3));
-        Check.failsOn(x, "set(2) again", Check.STATE, () -> x.set(2));
+        Check.fails("above a half course", Check.STATE, () -> x.set(3));
+        Check.fails("set(2) again", Check.STATE, () -> x.set(2));
         x.nextDay(true);
-        Check.failsOn(x, "frost", Check.STATE, () -> x.set(0));
+        Check.fails("frost", Check.STATE, () -> x.set(0));
         x.nextDay(false);
         Check.same("set(0)", x.set(0), 2);
-        Check.failsOn(x, "a complete course", Check.STATE, () -> x.set(1));
+        Check.fails("a complete course", Check.STATE, () -> x.set(1));
         Check.same("set(3)", x.set(3), 1);
         Check.same("complete courses", x.about(6), 2);
         Check.same("stones that are set", x.about(7), 3);

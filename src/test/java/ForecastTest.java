@@ -30,8 +30,8 @@ public final class ForecastTest {
         x.undo();
         x.scrap(1);
         Check.same("of a scrapped one", x.recutFor(1), AshlarLodge.NONE);
-        Check.failsOn(x, "recutFor(6)", Check.INDEX, () -> x.recutFor(6));
-        Check.failsOn(x, "recutFor(-1)", Check.INDEX, () -> x.recutFor(-1));
+        Check.fails("recutFor(6)", Check.INDEX, () -> x.recutFor(6));
+        Check.fails("recutFor(-1)", Check.INDEX, () -> x.recutFor(-1));
         AshlarLodge none = Check.lodge("L3c711c511m912s009s010");
         none.inspect(0);
         none.inspect(1);
@@ -57,8 +57,8 @@ public final class ForecastTest {
         Check.same("a new mason has no work", x.cheapest(1), 0);
         x.nextDay(true);
         Check.same("frost", x.cheapest(3), AshlarLodge.NONE);
-        Check.failsOn(x, "cheapest(4)", Check.INDEX, () -> x.cheapest(4));
-        Check.failsOn(x, "cheapest(-1)", Check.INDEX, () -> x.cheapest(-1));
+        Check.fails("cheapest(4)", Check.INDEX, () -> x.cheapest(4));
+        Check.fails("cheapest(-1)", Check.INDEX, () -> x.cheapest(-1));
         Check.same("no mason", Check.lodge("L3c111").cheapest(0), AshlarLodge.NONE);
     }
 
@@ -164,8 +164,8 @@ public final class ForecastTest {
 
     private static void wouldEarn() {
         AshlarLodge x = Check.lodge("L3c931c821c711m512m201s003s114s020s009s003");
-        Check.failsOn(x, "wouldEarn(-1)", Check.ARGUMENT, () -> x.wouldEarn(-1));
-        Check.failsOn(x, "wouldEarn(10)", Check.ARGUMENT, () -> x.wouldEarn(10));
+        Check.fails("wouldEarn(-1)", Check.ARGUMENT, () -> x.wouldEarn(-1));
+        Check.fails("wouldEarn(10)", Check.ARGUMENT, () -> x.wouldEarn(10));
         Check.asks(x, "wouldEarn(0)", 5, () -> x.wouldEarn(0));
         Check.same("wouldEarn(2)", x.wouldEarn(2), 5);
         Check.same("wouldEarn(3)", x.wouldEarn(3), 35);

@@ -42,14 +42,13 @@ public final class QueryTest {
         AshlarLodge x = worked();
         int[] due = {3, 2, 7, 2, 0, 3, 1, 1, 1, 14, 19, 1};
         for (int i = 0; i < due.length; i++) {
-            int what = i;
-            Check.asks(x, "about(" + what + ")", due[i], () -> x.about(what));
+            Check.same("about(" + i + ")", x.about(i), due[i]);
         }
         x.nextDay(true);
         Check.same("about(4) with frost", x.about(4), 1);
         Check.same("about(11) with frost", x.about(11), 2);
-        Check.failsOn(x, "about(-1)", Check.ARGUMENT, () -> x.about(-1));
-        Check.failsOn(x, "about(12)", Check.ARGUMENT, () -> x.about(12));
+        Check.fails("about(-1)", Check.ARGUMENT, () -> x.about(-1));
+        Check.fails("about(12)", Check.ARGUMENT, () -> x.about(12));
         Check.same("frost of day 0 is not counted", Check.lodge("L3f").about(11), 0);
     }
 
@@ -100,24 +99,24 @@ public final class QueryTest {
     private static void refuses() {
         AshlarLodge x = worked();
         for (int beyond : BEYOND) {
-            Check.failsOn(x, "course(" + beyond + ", 0)", Check.INDEX, () -> x.course(beyond, 0));
-            Check.failsOn(x, "mason(" + beyond + ", 0)", Check.INDEX, () -> x.mason(beyond, 0));
-            Check.failsOn(x, "stone(" + beyond + ", 0)", Check.INDEX, () -> x.stone(beyond, 0));
-            Check.failsOn(x, "whyNotSet(" + beyond + ")", Check.INDEX, () -> x.whyNotSet(beyond));
-            Check.failsOn(x, "course(0, " + beyond + ")", Check.ARGUMENT, () -> x.course(0, beyond));
-            Check.failsOn(x, "mason(0, " + beyond + ")", Check.ARGUMENT, () -> x.mason(0, beyond));
-            Check.failsOn(x, "stone(0, " + beyond + ")", Check.ARGUMENT, () -> x.stone(0, beyond));
+            Check.fails("course(" + beyond + ", 0)", Check.INDEX, () -> x.course(beyond, 0));
+            Check.fails("mason(" + beyond + ", 0)", Check.INDEX, () -> x.mason(beyond, 0));
+            Check.fails("stone(" + beyond + ", 0)", Check.INDEX, () -> x.stone(beyond, 0));
+            Check.fails("whyNotSet(" + beyond + ")", Check.INDEX, () -> x.whyNotSet(beyond));
+            Check.fails("course(0, " + beyond + ")", Check.ARGUMENT, () -> x.course(0, beyond));
+            Check.fails("mason(0, " + beyond + ")", Check.ARGUMENT, () -> x.mason(0, beyond));
+            Check.fails("stone(0, " + beyond + ")", Check.ARGUMENT, () -> x.stone(0, beyond));
         }
-        Check.failsOn(x, "course(3, 0)", Check.INDEX, () -> x.course(3, 0));
-        Check.failsOn(x, "course(3, 7)", Check.INDEX, () -> x.course(3, 7));
-        Check.failsOn(x, "course(2, 7)", Check.ARGUMENT, () -> x.course(2, 7));
-        Check.failsOn(x, "mason(2, 0)", Check.INDEX, () -> x.mason(2, 0));
-        Check.failsOn(x, "mason(2, 6)", Check.INDEX, () -> x.mason(2, 6));
-        Check.failsOn(x, "mason(1, 6)", Check.ARGUMENT, () -> x.mason(1, 6));
-        Check.failsOn(x, "stone(7, 0)", Check.INDEX, () -> x.stone(7, 0));
-        Check.failsOn(x, "stone(7, 6)", Check.INDEX, () -> x.stone(7, 6));
-        Check.failsOn(x, "stone(6, 6)", Check.ARGUMENT, () -> x.stone(6, 6));
-        Check.failsOn(x, "whyNotSet(7)", Check.INDEX, () -> x.whyNotSet(7));
+        Check.fails("course(3, 0)", Check.INDEX, () -> x.course(3, 0));
+        Check.fails("course(3, 7)", Check.INDEX, () -> x.course(3, 7));
+        Check.fails("course(2, 7)", Check.ARGUMENT, () -> x.course(2, 7));
+        Check.fails("mason(2, 0)", Check.INDEX, () -> x.mason(2, 0));
+        Check.fails("mason(2, 6)", Check.INDEX, () -> x.mason(2, 6));
+        Check.fails("mason(1, 6)", Check.ARGUMENT, () -> x.mason(1, 6));
+        Check.fails("stone(7, 0)", Check.INDEX, () -> x.stone(7, 0));
+        Check.fails("stone(7, 6)", Check.INDEX, () -> x.stone(7, 6));
+        Check.fails("stone(6, 6)", Check.ARGUMENT, () -> x.stone(6, 6));
+        Check.fails("whyNotSet(7)", Check.INDEX, () -> x.whyNotSet(7));
     }
 
     private static void whyNotSet() {

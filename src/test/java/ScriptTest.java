@@ -18,20 +18,20 @@ public final class ScriptTest {
     }
 
     private static void due(AshlarLodge x, int n, long script, int want) {
-        Check.asks(x, "runScript(" + n + ", " + script + ")", want, () -> x.runScript(n, script));
+        Check.same("runScript(" + n + ", " + script + ")", x.runScript(n, script), want);
     }
 
     private static void refuses() {
         AshlarLodge x = new AshlarLodge();
-        Check.failsOn(x, "n of 0", Check.ARGUMENT, () -> x.runScript(0, 0));
-        Check.failsOn(x, "n of 4", Check.ARGUMENT, () -> x.runScript(4, 0));
-        Check.failsOn(x, "n below 0", Check.ARGUMENT, () -> x.runScript(-1, 50000));
-        Check.failsOn(x, "below 0", Check.ARGUMENT, () -> x.runScript(1, -1));
-        Check.failsOn(x, "far below 0", Check.ARGUMENT, () -> x.runScript(3, Long.MIN_VALUE));
-        Check.failsOn(x, "6 digits", Check.ARGUMENT, () -> x.runScript(1, 100000));
-        Check.failsOn(x, "11 digits", Check.ARGUMENT, () -> x.runScript(2, 10000000000L));
-        Check.failsOn(x, "16 digits", Check.ARGUMENT, () -> x.runScript(3, 1000000000000000L));
-        Check.failsOn(x, "19 digits", Check.ARGUMENT, () -> x.runScript(3, Long.MAX_VALUE));
+        Check.fails("n of 0", Check.ARGUMENT, () -> x.runScript(0, 0));
+        Check.fails("n of 4", Check.ARGUMENT, () -> x.runScript(4, 0));
+        Check.fails("n below 0", Check.ARGUMENT, () -> x.runScript(-1, 50000));
+        Check.fails("below 0", Check.ARGUMENT, () -> x.runScript(1, -1));
+        Check.fails("far below 0", Check.ARGUMENT, () -> x.runScript(3, Long.MIN_VALUE));
+        Check.fails("6 digits", Check.ARGUMENT, () -> x.runScript(1, 100000));
+        Check.fails("11 digits", Check.ARGUMENT, () -> x.runScript(2, 10000000000L));
+        Check.fails("16 digits", Check.ARGUMENT, () -> x.runScript(3, 1000000000000000L));
+        Check.fails("19 digits", Check.ARGUMENT, () -> x.runScript(3, Long.MAX_VALUE));
         due(x, 1, 99999, 0);
         due(x, 2, 9999999999L, 0);
         due(x, 3, 999999999999999L, 0);

@@ -1,8 +1,5 @@
 /** Promise 31: simulations. */
 public final class SimulationTest {
-    private static final long FACTOR = 6364136223846793005L;
-    private static final long SUMMAND = 1442695040888963407L;
-
     public static void main(String[] args) {
         refuses();
         leavesOutWhatIsNotPossible();
@@ -14,28 +11,15 @@ public final class SimulationTest {
         Check.end("SimulationTest");
     }
 
-    private static long inverseOfFactor() {
-        long inverse = 1;
-        for (int i = 0; i < 6; i++) {
-            inverse *= 2 - FACTOR * inverse;
-        }
-        return inverse;
-    }
-
-    /** The seed from which the first round comes to r. */
-    private static long seedFor(int r) {
-        return (((long) r << 33) - SUMMAND) * inverseOfFactor();
-    }
-
     private static void due(AshlarLodge x, long seed, int m, int want) {
-        Check.asks(x, "simulate(" + seed + ", " + m + ")", want, () -> x.simulate(seed, m));
+        Check.same("simulate(" + seed + ", " + m + ")", x.simulate(seed, m), want);
     }
 
     private static void refuses() {
         AshlarLodge x = new AshlarLodge();
-        Check.failsOn(x, "no round", Check.ARGUMENT, () -> x.simulate(1, 0));
-        Check.failsOn(x, "100 rounds", Check.ARGUMENT, () -> x.simulate(1, 100));
-        Check.failsOn(x, "less than no round", Check.ARGUMENT, () -> x.simulate(1, Integer.MIN_VALUE));
+        Check.fails("no round", Check.ARGUMENT, () -> x.simulate(1, 0));
+        Check.fails("100 rounds", Check.ARGUMENT, () -> x.simulate(1, 100));
+        Check.fails("less than no round", Check.ARGUMENT, () -> x.simulate(1, Integer.MIN_VALUE));
         due(x, 0, 1, 0);
         due(x, 0, 99, 0);
     }
@@ -44,107 +28,86 @@ public final class SimulationTest {
         AshlarLodge empty = new AshlarLodge();
         AshlarLodge wall = Check.lodge("L3c111");
         for (int r = 0; r < 8; r++) {
-            due(empty, seedFor(r), 1, 0);
-            due(wall, seedFor(r), 1, 0);
+            due(empty, Seeds.seedFor(r), 1, 0);
+            due(wall, Seeds.seedFor(r), 1, 0);
         }
-        due(Check.lodge("L3m512"), seedFor(0), 1, 0);
-        due(Check.lodge("L3m512"), seedFor(7), 1, 10);
-        due(Check.lodge("L3m512"), seedFor(7 + 8), 1, 0);
-        due(Check.lodge("L3m512"), seedFor(7 + 32), 1, 10);
-        due(Check.lodge("L3m512"), seedFor(7 + 64), 1, 10);
-        due(Check.lodge("L3m512"), seedFor(Integer.MAX_VALUE), 1, 0);
+        due(Check.lodge("L3m512"), Seeds.seedFor(0), 1, 0);
+        due(Check.lodge("L3m512"), Seeds.seedFor(7), 1, 10);
+        due(Check.lodge("L3m512"), Seeds.seedFor(7 + 8), 1, 0);
+        due(Check.lodge("L3m512"), Seeds.seedFor(7 + 32), 1, 10);
+        due(Check.lodge("L3m512"), Seeds.seedFor(7 + 64), 1, 10);
+        due(Check.lodge("L3m512"), Seeds.seedFor(Integer.MAX_VALUE), 1, 0);
     }
 
     private static void playsSingleRounds() {
         AshlarLodge x = Check.lodge("L3c912c611m512m204s009s000s001s000");
-        due(x, seedFor(3), 1, 0);
+        due(x, Seeds.seedFor(3), 1, 0);
         x.inspect(0);
-        due(x, seedFor(3), 1, 5);
-        due(x, seedFor(4), 1, 5);
-        due(x, seedFor(5), 1, 0);
+        due(x, Seeds.seedFor(3), 1, 5);
+        due(x, Seeds.seedFor(4), 1, 5);
+        due(x, Seeds.seedFor(5), 1, 0);
         x.inspect(1);
-        due(x, seedFor(5), 1, 10005);
+        due(x, Seeds.seedFor(5), 1, 10005);
         x.inspect(2);
         x.set(1);
-        due(x, seedFor(5), 1, 20010);
-        due(x, seedFor(7), 1, 10010 + 14);
+        due(x, Seeds.seedFor(5), 1, 20010);
+        due(x, Seeds.seedFor(7), 1, 10010 + 14);
         x.nextDay(true);
-        due(x, seedFor(5), 1, 10010 + 14);
-    }
-
-    /** A seed from which the first round comes to r, and each later one to this remainder by 8. */
-    private static long seedFor(int r, int... later) {
-        for (long low = 0; low < 100000; low++) {
-            long seed = seedFor(r) + low * inverseOfFactor();
-            if (comesTo(seed, r, later)) {
-                return seed;
-            }
-        }
-        throw new IllegalStateException("no such seed");
-    }
-
-    private static boolean comesTo(long seed, int r, int[] later) {
-        long x = seed * FACTOR + SUMMAND;
-        boolean all = (int) (x >>> 33) == r;
-        for (int eighth : later) {
-            x = x * FACTOR + SUMMAND;
-            all &= (int) (x >>> 33) % 8 == eighth;
-        }
-        return all;
+        due(x, Seeds.seedFor(5), 1, 10010 + 14);
     }
 
     private static void playsTwoRounds() {
         // The mason, the course and the fault of a cut tell themselves in what its inspection brings.
         AshlarLodge x = Check.lodge("L3c912c832m512m412");
         for (int round = 0; round < 3; round++) {
-            due(x, seedFor(round, 3), 2, 5);
-            due(x, seedFor(round + 8, 4), 2, 4);
-            due(x, seedFor(round + 64, 3), 2, 15);
-            due(x, seedFor(round + 64 + 8, 3), 2, 12);
-            due(x, seedFor(round + 3 * 1024 + 64 + 8, 4), 2, 12);
-            due(x, seedFor(round + 4 * 1024 + 64 + 8, 4), 2, 0);
-            due(x, seedFor(round + 9 * 1024, 4), 2, 0);
-            due(x, seedFor(round + 10 * 1024, 4), 2, 5);
+            due(x, Seeds.seedFor(round, 3), 2, 5);
+            due(x, Seeds.seedFor(round + 8, 4), 2, 4);
+            due(x, Seeds.seedFor(round + 64, 3), 2, 15);
+            due(x, Seeds.seedFor(round + 64 + 8, 3), 2, 12);
+            due(x, Seeds.seedFor(round + 3 * 1024 + 64 + 8, 4), 2, 12);
+            due(x, Seeds.seedFor(round + 4 * 1024 + 64 + 8, 4), 2, 0);
+            due(x, Seeds.seedFor(round + 9 * 1024, 4), 2, 0);
+            due(x, Seeds.seedFor(round + 10 * 1024, 4), 2, 5);
         }
         AshlarLodge recut = Check.lodge("L3c912c832c711m512m412s004");
         recut.inspect(0);
-        due(recut, seedFor(6, 3), 2, 7);
-        due(recut, seedFor(6 + 8, 3), 2, 6);
+        due(recut, Seeds.seedFor(6, 3), 2, 7);
+        due(recut, Seeds.seedFor(6 + 8, 3), 2, 6);
     }
 
     private static void recutsOrScraps() {
         AshlarLodge own = Check.lodge("L3c932c822m512m101s014s003");
         own.inspect(0);
-        due(own, seedFor(6, 3), 2, 15);
+        due(own, Seeds.seedFor(6, 3), 2, 15);
         own.inspect(1);
-        due(own, seedFor(6, 3), 2, 15);
+        due(own, Seeds.seedFor(6, 3), 2, 15);
         // The stone 0 cannot be recut: only when it is scrapped is the stone 1 the lowest one.
         AshlarLodge lowest = Check.lodge("L3c911c821m512s019s004");
         lowest.inspect(0);
         lowest.inspect(1);
-        due(lowest, seedFor(6, 3), 2, 0);
-        due(lowest, seedFor(6, 6, 3), 3, 5);
+        due(lowest, Seeds.seedFor(6, 3), 2, 0);
+        due(lowest, Seeds.seedFor(6, 6, 3), 3, 5);
         // Half of 5 faces is too much work for a strength of 2.
         AshlarLodge weak = Check.lodge("L3c951c851m102s009");
         weak.inspect(0);
         weak.setBound(9);
-        due(weak, seedFor(6, 3), 2, 0);
+        due(weak, Seeds.seedFor(6, 3), 2, 0);
         AshlarLodge strong = Check.lodge("L3c951c851m903s009");
         strong.inspect(0);
         strong.setBound(9);
-        due(strong, seedFor(6, 3), 2, 22);
+        due(strong, Seeds.seedFor(6, 3), 2, 22);
     }
 
     private static void setsLowest() {
         AshlarLodge x = Check.lodge("L3c911c811m512s000s010s000");
         x.inspect(1);
-        due(x, seedFor(5), 1, 5);
+        due(x, Seeds.seedFor(5), 1, 5);
         x.inspect(0);
-        due(x, seedFor(5), 1, 10010);
-        due(x, seedFor(5, 5), 2, 20010);
-        due(x, seedFor(5, 5, 5), 3, 20010);
-        due(x, seedFor(7, 5), 2, 20);
-        due(x, seedFor(7 + 8, 5), 2, 10010);
+        due(x, Seeds.seedFor(5), 1, 10010);
+        due(x, Seeds.seedFor(5, 5), 2, 20010);
+        due(x, Seeds.seedFor(5, 5, 5), 3, 20010);
+        due(x, Seeds.seedFor(7, 5), 2, 20);
+        due(x, Seeds.seedFor(7 + 8, 5), 2, 10010);
     }
 
     private static void tellsAtMost9999() {
@@ -154,8 +117,8 @@ public final class SimulationTest {
         for (int day = 0; day < 92; day++) {
             x.nextDay(true);
         }
-        due(x, seedFor(3), 1, 19945);
-        due(x, seedFor(7), 1, 19999);
-        due(x, seedFor(7 + 8), 1, 19945);
+        due(x, Seeds.seedFor(3), 1, 19945);
+        due(x, Seeds.seedFor(7), 1, 19999);
+        due(x, Seeds.seedFor(7 + 8), 1, 19945);
     }
 }

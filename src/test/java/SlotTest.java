@@ -14,7 +14,7 @@ public final class SlotTest {
         x.pay();
         x.inspect(1);
         String first = Check.tell(x);
-        Check.asks(x, "save(0)", 1, () -> x.save(0));
+        Check.same("save(0)", x.save(0), 1);
         x.nextDay(false);
         x.recut(1, 1, 1);
         x.set(0);
@@ -24,7 +24,7 @@ public final class SlotTest {
         x.addCourse(9, 6, 9);
         x.inspect(2);
         String second = Check.tell(x);
-        Check.asks(x, "save(1)", 2, () -> x.save(1));
+        Check.same("save(1)", x.save(1), 2);
         x.nextDay(true);
         x.append('f');
         Check.same("restore(0)", x.restore(0), 1);
