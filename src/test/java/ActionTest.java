@@ -15,6 +15,7 @@ public final class ActionTest {
         sets();
         pays();
         beginsDays();
+        countsWithoutLimit();
         Check.end("ActionTest");
     }
 
@@ -295,5 +296,21 @@ public final class ActionTest {
         Check.same("work again", x.mason(0, 2), 12);
         Check.same("no more is owed", x.about(9), 12 + 8 + 28);
         Check.same("the day", x.about(3), 4);
+    }
+
+    /** The document names no greatest day and no greatest sum; 470 days of frost are about what 512 calls allow. */
+    private static void countsWithoutLimit() {
+        AshlarLodge x = Check.lodge("L3" + "m912".repeat(6));
+        for (int day = 1; day <= 470; day++) {
+            Check.same("nextDay(true)", x.nextDay(true), day);
+        }
+        Check.same("the day", x.about(3), 470);
+        Check.same("days with frost", x.about(11), 470);
+        Check.same("owed to one", x.mason(5, 3), 470 * 18);
+        Check.same("owed to all", x.about(9), 470 * 6 * 18);
+        Check.same("pay", x.pay(), 470 * 6 * 18);
+        Check.same("paid", x.about(10), 470 * 6 * 18);
+        Check.same("undo", x.undo(), 13);
+        Check.same("owed to all again", x.about(9), 470 * 6 * 18);
     }
 }
